@@ -111,7 +111,7 @@ public final class ProofBench {
         if (i >= sizeOf(literals)) {
             return 0;
         }
-        int variable = (int) (orders[clause] >>> (ORDER_BITS * i) & ORDER_MASK) + 1;
+        int variable = (int) ((orders[clause] >>> (ORDER_BITS * i)) & ORDER_MASK) + 1;
         return (literals & bitOf(variable)) != NO_LITERALS ? variable : -variable;
     }
 
@@ -178,7 +178,7 @@ public final class ProofBench {
 
     /** The literals that are true just when those of the set are false: the halves change places. */
     private static int negated(int literals) {
-        return literals << MOST_VARIABLES | literals >>> MOST_VARIABLES;
+        return (literals << MOST_VARIABLES) | (literals >>> MOST_VARIABLES);
     }
 
     private static int sizeOf(int literals) {

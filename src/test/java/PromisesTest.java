@@ -100,6 +100,10 @@ public final class PromisesTest {
 
     private static void literalRefuses() {
         ProofBench x = new ProofBench();
+        int[] none = {0, 17, -17, 32, -32, Integer.MAX_VALUE, Integer.MIN_VALUE};
+        for (int l : none) {
+            CHECK.dueIllegalArgument("2 literal(" + l + "), the draft being empty", () -> x.literal(l));
+        }
         x.literal(5);
         x.literal(-16);
         int[] bad = {0, 17, -17, 18, 32, -32, 33, 5, -5, 16, -16, 100,
