@@ -4,8 +4,14 @@ final class Check {
         long answer();
     }
 
+    private String sentence = "";
     private int compared = 0;
     private int wrong = 0;
+
+    /** The document's sentence that the answers from here on are due by. */
+    void sentence(String where, String words) {
+        sentence = where + " \"" + words + "\": ";
+    }
 
     void due(String what, long got, long want) {
         same(what, String.valueOf(got), String.valueOf(want));
@@ -27,7 +33,7 @@ final class Check {
         compared++;
         if (!got.equals(want)) {
             wrong++;
-            System.out.println(what + " answered " + got + ", due is " + want);
+            System.out.println(sentence + what + " answered " + got + ", due is " + want);
         }
     }
 

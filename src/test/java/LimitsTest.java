@@ -2,12 +2,14 @@
  * The limit of 600 clauses. An object is promised for 512 calls only, so no promised run comes to
  * it; the document names it all the same, and no call may fail there by itself.
  */
-public final class LimitsTest {
-    private static final Check CHECK = new Check();
-
+public final class LimitsTest extends BenchCalls {
     public static void main(String[] args) {
-        lastClauses();
-        fullBench();
+        clausesInALife();
+        droppingMakesNoRoom();
+        giveIllegalState();
+        stepIllegalState();
+        alongIllegalState();
+        otherCallsOnAFullBench();
         lastClauseByStep();
         lastClauseAlong();
         CHECK.end();
@@ -16,49 +18,88 @@ public final class LimitsTest {
     private static ProofBench filled(int clauses) {
         ProofBench x = new ProofBench();
         for (int i = 0; i < clauses; i++) {
-            x.literal(i % 2 == 0 ? 1 : -2);
-            x.give();
+            give(x, i % 2 == 0 ? 1 : -2);
         }
         return x;
     }
 
-    private static void lastClauses() {
+    private static ProofBench fullWithFollowedDraft() {
+        ProofBench x = filled(600);
+        literals(x, 3, 1);
+        x.hint(598);
+        return x;
+    }
+
+    private static ProofBench fullWithOtherDraft() {
+        ProofBench x = filled(600);
+        literals(x, 9, -8);
+        x.hint(599);
+        return x;
+    }
+
+    private static void clausesInALife() {
+        CHECK.sentence("Terms", "at most 600 in a life");
         ProofBench x = new ProofBench();
         for (int i = 0; i < 600; i++) {
             CHECK.due("give()", x.give(), i);
         }
         CHECK.dueIllegalState("give() of clause 600", x::give);
+        dueCounts("full", x, 600, 600, 0, 0, 0);
     }
 
-    private static void fullBench() {
+    private static void droppingMakesNoRoom() {
+        CHECK.sentence("Terms", "at most 600 in a life; each is THERE until it is dropped");
         ProofBench x = filled(600);
-        x.literal(1);
-        x.literal(3);
-        x.hint(598);
+        for (int clause = 0; clause < 600; clause++) {
+            CHECK.due("drop(" + clause + ")", x.drop(clause), 1);
+        }
+        CHECK.dueIllegalState("give(), all being dropped", x::give);
+        dueCounts("all dropped", x, 600, 0, 0, 0, 0);
+        CHECK.due("told()", x.told(), 0);
+    }
+
+    private static void giveIllegalState() {
+        CHECK.sentence("Promise 5", "Illegal state.");
+        CHECK.due("give() of the last clause", give(filled(599), 7), 599);
+        refusedState("give() without literals", () -> filled(600), ProofBench::give);
+        refusedState("give() of a draft", LimitsTest::fullWithOtherDraft, ProofBench::give);
+    }
+
+    private static void stepIllegalState() {
+        CHECK.sentence("Promise 6", "Illegal state (followed or not, as in along()).");
+        CHECK.due("the draft would be followed", fullWithFollowedDraft().told(), 17);
+        refusedState("step(), followed", LimitsTest::fullWithFollowedDraft, ProofBench::step);
+        CHECK.due("the other draft would not", fullWithOtherDraft().told(), 2);
+        refusedState("step(), not followed", LimitsTest::fullWithOtherDraft, ProofBench::step);
+    }
+
+    private static void alongIllegalState() {
+        CHECK.sentence("Promise 7", "Illegal state.");
+        refusedState("along(), followed", LimitsTest::fullWithFollowedDraft, ProofBench::along);
+        refusedState("along(), not followed", LimitsTest::fullWithOtherDraft, ProofBench::along);
+        refusedState("along(), no hints", () -> filled(600), ProofBench::along);
+    }
+
+    private static void otherCallsOnAFullBench() {
+        CHECK.sentence("Terms", "Illegal state: there are 600 clauses.");
+        ProofBench x = fullWithFollowedDraft();
         CHECK.due("told()", x.told(), 17);
-        CHECK.dueIllegalState("give()", x::give);
-        CHECK.dueIllegalState("step() of what is followed", x::step);
-        CHECK.dueIllegalState("along() of what is followed", x::along);
-        CHECK.due("count(3), the draft stays", x.count(3), 2);
-        CHECK.due("count(4), the hints stay", x.count(4), 1);
-        x.clear();
-        x.literal(9);
-        CHECK.dueIllegalState("step() of what is not followed", x::step);
-        CHECK.dueIllegalState("along() of what is not followed", x::along);
+        CHECK.due("isOver()", x.isOver(), false);
+        CHECK.due("wrong()", x.wrong(), 0);
+        CHECK.due("literal(16)", x.literal(16), 3);
+        CHECK.due("hint(599)", x.hint(599), 2);
+        CHECK.due("clear()", x.clear(), 5);
         CHECK.due("at(599, 0)", x.at(599, 0), -2);
         CHECK.due("drop(599)", x.drop(599), 1);
-        CHECK.dueIllegalState("give(), a clause being dropped", x::give);
-        CHECK.dueIllegalArgument("drop(600)", () -> x.drop(600));
-        CHECK.dueIllegalArgument("at(600, 0)", () -> x.at(600, 0));
-        CHECK.due("hint(599)", x.hint(599), 1);
-        CHECK.due("count(0)", x.count(0), 600);
-        CHECK.due("count(1)", x.count(1), 599);
-        CHECK.due("count(2)", x.count(2), 0);
-        CHECK.due("wrong()", x.wrong(), 0);
-        CHECK.due("isOver()", x.isOver(), false);
+        dueCounts("full", x, 600, 599, 0, 0, 0);
+        for (int clause : withFarInts(-1, 599, 600, 601)) {
+            CHECK.dueIllegalArgument("drop(" + clause + ")", () -> x.drop(clause));
+            CHECK.dueIllegalArgument("at(" + clause + ", 0)", () -> x.at(clause, 0));
+        }
     }
 
     private static void lastClauseByStep() {
+        CHECK.sentence("Promise 6", "If the draft is followed it becomes a clause");
         ProofBench x = filled(599);
         x.literal(9);
         CHECK.due("step() before the last clause", x.step(), -1);
@@ -68,14 +109,13 @@ public final class LimitsTest {
     }
 
     private static void lastClauseAlong() {
+        CHECK.sentence("Promise 7", "If the draft is followed along the hints it becomes a clause");
         ProofBench x = filled(599);
         x.literal(-2);
         x.hint(599);
         CHECK.due("along() itself", x.along(), -1);
-        x.clear();
-        x.literal(-2);
-        x.hint(0);
-        x.hint(597);
+        draft(x, -2);
+        hints(x, 0, 597);
         CHECK.due("along() to the last clause", x.along(), 599);
         CHECK.dueIllegalState("along() behind it", x::along);
     }

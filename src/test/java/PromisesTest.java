@@ -1,7 +1,5 @@
 /** Each promise of the document by hand: ordinary inputs, the edges that it names, wrong inputs. */
-public final class PromisesTest {
-    private static final Check CHECK = new Check();
-
+public final class PromisesTest extends BenchCalls {
     public static void main(String[] args) {
         newObject();
         objectsAreApart();
@@ -33,33 +31,6 @@ public final class PromisesTest {
         countTellsEach();
         countRefuses();
         CHECK.end();
-    }
-
-    private static ProofBench draft(ProofBench x, int... literals) {
-        x.clear();
-        for (int l : literals) {
-            x.literal(l);
-        }
-        return x;
-    }
-
-    private static int give(ProofBench x, int... literals) {
-        for (int l : literals) {
-            x.literal(l);
-        }
-        return x.give();
-    }
-
-    private static void hints(ProofBench x, int... clauses) {
-        for (int clause : clauses) {
-            x.hint(clause);
-        }
-    }
-
-    private static void dueCounts(String when, ProofBench x, int... want) {
-        for (int what = 0; what < want.length; what++) {
-            CHECK.due(when + ": count(" + what + ")", x.count(what), want[what]);
-        }
     }
 
     private static void newObject() {
@@ -178,15 +149,6 @@ public final class PromisesTest {
         x.drop(2);
         CHECK.due("5 numbers are not used again", x.give(), 3);
         dueCounts("5 given", x, 4, 3, 0, 0, 2);
-    }
-
-    private static ProofBench fourClauses() {
-        ProofBench x = new ProofBench();
-        give(x, 1, 2);
-        give(x, 1, -2);
-        give(x, -1, 3);
-        give(x, -1, -3);
-        return x;
     }
 
     private static void stepFollows() {
