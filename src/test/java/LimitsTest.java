@@ -1,6 +1,8 @@
 /**
- * The limit of 600 clauses. An object is promised for 512 calls only, so no promised run comes to
- * it; the document names it all the same, and no call may fail there by itself.
+ * The limit of 600 clauses. "Nothing is promised .. about an object after its 512th call", and no
+ * run comes to 600 clauses before; so what is due here is the class's own choice, by the words in
+ * which the document names the limit, and by rule 7: no call may throw by itself in any state. All
+ * other tests stay within 512 calls an object.
  */
 public final class LimitsTest extends BenchCalls {
     public static void main(String[] args) {
